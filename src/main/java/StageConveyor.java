@@ -785,20 +785,17 @@ public final class StageConveyor {
         tale.clear();
         caller.begin(tale);
         line.begin(tale, p);
-        Val result = attempt(end, f, a);
+        Val result = null;
+        try {
+            result = ender.conclude(end, f, a);
+        } catch (IllegalStateException failed) {
+            // the tale has the failure already
+        }
         line.closeAll();
         if (result != null && tale.failure == 0) {
             tale.result.hold(result);
         }
         stepsOfAll += tale.steps;
-    }
-
-    private Val attempt(int end, int f, int a) {
-        try {
-            return ender.conclude(end, f, a);
-        } catch (IllegalStateException failed) {
-            return null;
-        }
     }
 
     private static boolean fits(int one, int two) {
@@ -848,35 +845,36 @@ public final class StageConveyor {
         Val[] parts;
 
         Val beWhole(long v) {
-            beSingle(LONG, 0);
+            kind = LONG;
+            size = 0;
+            weight = 1;
+            depth = 1;
             whole = v;
             hash = 31 * v + 1;
             return this;
         }
 
         Val beReal(double v) {
-            beSingle(REAL, 0);
+            kind = REAL;
+            size = 0;
+            weight = 1;
+            depth = 1;
             real = v + 0.0;
             hash = 31 * (long) (8.0 * real) + 2;
             return this;
         }
 
         Val beWord(long digits, int letters) {
-            beSingle(WORD, letters);
-            whole = digits;
-            long so = 3;
-            for (int i = 0; i < letters; i++) {
-                so = 31 * so + letterAt(i);
-            }
-            hash = so;
-            return this;
-        }
-
-        private void beSingle(int itsKind, int itsSize) {
-            kind = itsKind;
-            size = itsSize;
+            kind = WORD;
+            size = letters;
             weight = 1;
             depth = 1;
+            whole = digits;
+            hash = 3;
+            for (int i = letters - 1; i >= 0; i--) {
+                hash = 31 * hash + digits / POWERS[i] % 27;
+            }
+            return this;
         }
 
         /** Makes room for n parts; close() must follow when they are there. */
@@ -946,7 +944,9 @@ public final class StageConveyor {
                 return Long.compare(x.whole, y.whole);
             }
             if (x.kind == WORD) {
-                return Long.compare(x.aligned(), y.aligned());
+                // moved to the left end, so that a beginning is below what it begins
+                return Long.compare(x.whole * POWERS[MOST_LETTERS - x.size],
+                        y.whole * POWERS[MOST_LETTERS - y.size]);
             }
             for (int i = 0; i < x.size && i < y.size; i++) {
                 int so = order(x.parts[i], y.parts[i]);
@@ -955,11 +955,6 @@ public final class StageConveyor {
                 }
             }
             return Integer.compare(x.size, y.size);
-        }
-
-        /** The digits moved to the left end, so that a beginning is below what it begins. */
-        private long aligned() {
-            return whole * POWERS[MOST_LETTERS - size];
         }
     }
 
@@ -1388,8 +1383,10 @@ public final class StageConveyor {
 
         /** Always throws; it answers a VALUE so that a caller can return it. */
         Val fail(Place at, int failure) {
-            tale.noteFailure(failure, at.number, at.gave);
-            return raise();
+            tale.failure = failure;
+            tale.failedAt = at.number;
+            tale.gaveBefore = at.gave;
+            throw new IllegalStateException("a RUN has failed");
         }
 
         /** Lets the failure that is noted go on. */
@@ -1445,8 +1442,8 @@ public final class StageConveyor {
             return isFinite(v) ? fresh().beReal(v) : fail(at, BY_RANGE);
         }
 
-        boolean holds(Place at, int f, Val x) {
-            Val answer = invoke(at, f, x, x);
+        /** Whether this answer of a FUNCTION says that it HOLDS. */
+        boolean isYes(Place at, Val answer) {
             if (answer.kind != LONG) {
                 fail(at, BY_KIND);
             }
@@ -1464,6 +1461,11 @@ public final class StageConveyor {
             if (!fits(fun.asks, x.kind) || two && !fits(fun.asksSecond, y.kind)) {
                 return fail(at, BY_KIND);
             }
+            return answerOf(at, f, x, y);
+        }
+
+        private Val answerOf(Place at, int f, Val x, Val y) {
+            Fun fun = stock.functions[f];
             switch (fun.form) {
                 case Fun.OF_BOTH:
                     Val between = invoke(at, fun.inner, x, y);
@@ -1477,44 +1479,20 @@ public final class StageConveyor {
                 default:
                     break;
             }
-            if (fun.code == 27) {
+            int code = fun.code;
+            if (code == 27) {
                 return tale.callsOf[f] % 3 == 0 ? x : fail(at, BY_FLAKY);
             }
-            return two ? ofTwo(at, fun.code, x, y) : ofOne(at, fun.code, x);
-        }
-
-        private Val ofOne(Place at, int code, Val x) {
-            if (code <= 7) {
-                return ofLong(code, x.whole);
+            if (fun.arity == 2) {
+                return code <= 37 ? ofLongs(at, code, x.whole, y.whole)
+                        : code <= 41 ? ofReals(at, code, x.real, y.real)
+                        : ofTwo(at, code, x, y);
             }
-            if (code <= 10) {
-                return ofReal(at, code, x.real);
-            }
-            if (code <= 14) {
-                return ofWord(at, code, x);
-            }
-            if (code >= 18 && code <= 22) {
-                return ofList(at, code, x);
-            }
-            switch (code) {
-                case 15:
-                    return x.parts[0];
-                case 16:
-                    return x.parts[1];
-                case 17:
-                    return pairOf(at, x.parts[1], x.parts[0]);
-                case 23:
-                    gathered[0] = x;
-                    return listOf(at, 1, gathered, 0, 1);
-                case 24:
-                    return fresh(x.kind);
-                case 25:
-                    return fresh(x.hash);
-                case 26:
-                    return pairOf(at, x, x);
-                default:
-                    return fresh(x.weight);
-            }
+            return code <= 7 ? ofLong(code, x.whole)
+                    : code <= 10 ? ofReal(at, code, x.real)
+                    : code <= 14 ? ofWord(at, code, x)
+                    : code >= 18 && code <= 22 ? ofList(at, code, x)
+                    : ofOne(at, code, x);
         }
 
         private Val ofLong(int code, long v) {
@@ -1596,49 +1574,29 @@ public final class StageConveyor {
                 }
                 sum += x.parts[i].whole;
             }
-            return fresh(sum);
+            return fresh().beWhole(sum);
         }
 
-        private Val ofTwo(Place at, int code, Val x, Val y) {
-            if (code <= 37) {
-                return ofLongs(at, code, x.whole, y.whole);
-            }
-            if (code <= 41) {
-                return ofReals(at, code, x.real, y.real);
-            }
+        private Val ofOne(Place at, int code, Val x) {
             switch (code) {
-                case 42:
-                    return joinedWord(at, x, y);
-                case 43:
-                    return truth(Val.isSame(x, y));
-                case 44:
-                    return truth(Val.order(x, y) < 0);
-                case 45:
-                    return pairOf(at, x, y);
-                case 46:
+                case 15:
+                    return x.parts[0];
+                case 16:
+                    return x.parts[1];
+                case 17:
+                    return pairOf(at, x.parts[1], x.parts[0]);
+                case 23:
                     gathered[0] = x;
-                    return joinedList(at, 1, y);
-                case 47:
-                    for (int i = 0; i < x.size; i++) {
-                        gathered[i] = x.parts[i];
-                    }
-                    return joinedList(at, x.size, y);
-                case 48:
-                    boolean has = y.whole >= 0 && y.whole < x.size;
-                    return has ? x.parts[(int) y.whole] : fail(at, BY_BOUNDS);
-                case 49:
-                    return x;
+                    return listOf(at, 1, gathered, 0, 1);
+                case 24:
+                    return fresh(x.kind);
+                case 25:
+                    return fresh(x.hash);
+                case 26:
+                    return pairOf(at, x, x);
                 default:
-                    return y;
+                    return fresh(x.weight);
             }
-        }
-
-        /** The elements gathered first, and then those of the LIST behind. */
-        private Val joinedList(Place at, int first, Val behind) {
-            for (int i = 0; i < behind.size; i++) {
-                gathered[first + i] = behind.parts[i];
-            }
-            return listOf(at, first, gathered, 0, first + behind.size);
         }
 
         private Val ofLongs(Place at, int code, long x, long y) {
@@ -1672,6 +1630,40 @@ public final class StageConveyor {
                     return y == 0.0 ? fail(at, BY_ZERO) : realOf(at, x / y);
                 default:
                     return truth(x < y);
+            }
+        }
+
+        private Val ofTwo(Place at, int code, Val x, Val y) {
+            switch (code) {
+                case 42:
+                    return joinedWord(at, x, y);
+                case 43:
+                    return truth(Val.isSame(x, y));
+                case 44:
+                    return truth(Val.order(x, y) < 0);
+                case 45:
+                    return pairOf(at, x, y);
+                case 46:
+                    gathered[0] = x;
+                    gatherParts(1, y);
+                    return listOf(at, 1, gathered, 0, 1 + y.size);
+                case 47:
+                    gatherParts(0, x);
+                    gatherParts(x.size, y);
+                    return listOf(at, x.size, gathered, 0, x.size + y.size);
+                case 48:
+                    boolean has = y.whole >= 0 && y.whole < x.size;
+                    return has ? x.parts[(int) y.whole] : fail(at, BY_BOUNDS);
+                case 49:
+                    return x;
+                default:
+                    return y;
+            }
+        }
+
+        private void gatherParts(int from, Val list) {
+            for (int i = 0; i < list.size; i++) {
+                gathered[from + i] = list.parts[i];
             }
         }
     }
@@ -1819,11 +1811,12 @@ public final class StageConveyor {
         }
 
         private Val nextOfSource(Place at) {
-            switch (at.pipe.sort) {
+            Pipe pipe = at.pipe;
+            switch (pipe.sort) {
                 case OPENED:
                     return nextOpened(at);
                 case FAILING:
-                    return at.gave >= at.pipe.a ? caller.fail(at, BY_SOURCE) : ask(at.below);
+                    return at.gave >= pipe.a ? caller.fail(at, BY_SOURCE) : ask(at.below);
                 case JOINED:
                     Val first = ask(at.below);
                     return first != null ? first : ask(at.other);
@@ -1834,41 +1827,37 @@ public final class StageConveyor {
                 default:
                     break;
             }
-            if (at.gave >= at.pipe.many) {
+            if (at.gave >= pipe.many) {
                 return null;
             }
-            Val v = nextMade(at);
+            Val state = at.held == null ? stock.values[pipe.value] : at.held;
+            boolean calls = pipe.sort == UNFOLD || pipe.sort == ITERATE && at.gave > 0;
+            Val v = nextMade(at, calls ? caller.invoke(at, pipe.f, state, state) : state);
             return caller.pays(1) ? v : caller.fail(at, BY_STEPS);
         }
 
-        private Val nextMade(Place at) {
+        /** The state is what f gave, where f was called. */
+        private Val nextMade(Place at, Val state) {
             Pipe pipe = at.pipe;
             switch (pipe.sort) {
                 case RANGE:
                     return caller.fresh(pipe.from + at.gave);
                 case ITERATE:
-                    at.held = at.held == null ? stock.values[pipe.value]
-                            : caller.invoke(at, pipe.f, at.held, at.held);
-                    return at.held;
+                    at.held = state;
+                    return state;
                 case UNFOLD:
-                    return nextUnfolded(at);
+                    if (state.kind != PAIR) {
+                        return caller.fail(at, BY_KIND);
+                    }
+                    at.held = state.parts[1];
+                    return state.parts[0];
                 case STEPS:
                     return caller.fresh().beReal(pipe.start + at.gave * pipe.by);
                 case ROW:
-                    return stock.values[pipe.value].parts[at.gave];
+                    return state.parts[at.gave];
                 default:
-                    return caller.letterOf(stock.values[pipe.value], at.gave);
+                    return caller.letterOf(state, at.gave);
             }
-        }
-
-        private Val nextUnfolded(Place at) {
-            Val state = at.held == null ? stock.values[at.pipe.value] : at.held;
-            Val both = caller.invoke(at, at.pipe.f, state, state);
-            if (both.kind != PAIR) {
-                return caller.fail(at, BY_KIND);
-            }
-            at.held = both.parts[1];
-            return both.parts[0];
         }
 
         private Val nextOpened(Place at) {
@@ -1933,7 +1922,7 @@ public final class StageConveyor {
         private Val nextKept(Place at) {
             for (int i = 0; i < MANY; i++) {
                 Val v = ask(at.below);
-                if (v == null || caller.holds(at, at.pipe.f, v)) {
+                if (v == null || caller.isYes(at, caller.invoke(at, at.pipe.f, v, v))) {
                     return v;
                 }
             }
@@ -1987,7 +1976,10 @@ public final class StageConveyor {
 
         private Val nextWhile(Place at) {
             Val v = ask(at.below);
-            return v != null && caller.holds(at, at.pipe.f, v) ? v : null;
+            if (v == null) {
+                return null;
+            }
+            return caller.isYes(at, caller.invoke(at, at.pipe.f, v, v)) ? v : null;
         }
 
         private Val nextFrom(Place at) {
@@ -1996,7 +1988,7 @@ public final class StageConveyor {
                 if (v == null || at.started) {
                     return v;
                 }
-                if (!caller.holds(at, at.pipe.f, v)) {
+                if (!caller.isYes(at, caller.invoke(at, at.pipe.f, v, v))) {
                     at.started = true;
                     return v;
                 }
@@ -2101,7 +2093,7 @@ public final class StageConveyor {
         private Val nextGrouped(Place at) {
             if (!at.started) {
                 at.started = true;
-                hold(at, ask(at.below));
+                holdNext(at);
             }
             if (at.held == null) {
                 return null;
@@ -2110,7 +2102,7 @@ public final class StageConveyor {
             at.put(at.held);
             Val mark = at.mark;
             for (int i = 0; i < MANY; i++) {
-                hold(at, ask(at.below));
+                holdNext(at);
                 if (at.held == null || !Val.isSame(at.mark, mark)) {
                     break;
                 }
@@ -2122,7 +2114,8 @@ public final class StageConveyor {
             return caller.listOf(at, at.count, at.items, 0, at.count);
         }
 
-        private void hold(Place at, Val v) {
+        private void holdNext(Place at) {
+            Val v = ask(at.below);
             at.held = v;
             at.mark = v == null ? null : caller.invoke(at, at.pipe.f, v, v);
         }
@@ -2131,7 +2124,7 @@ public final class StageConveyor {
             if (at.started) {
                 return null;
             }
-            if (couldAsk(at)) {
+            if (couldHold(at, null)) {
                 return at.held;
             }
             if (tale.failure == BY_STEPS) {
@@ -2142,22 +2135,13 @@ public final class StageConveyor {
             return stock.values[at.pipe.a];
         }
 
-        private boolean couldAsk(Place at) {
-            try {
-                at.held = ask(at.below);
-                return true;
-            } catch (IllegalStateException failed) {
-                return false;
-            }
-        }
-
         private Val nextRetried(Place at) {
             Val v = ask(at.below);
             if (v == null) {
                 return null;
             }
             for (int i = 0; i < at.pipe.a; i++) {
-                if (couldInvoke(at, v)) {
+                if (couldHold(at, v)) {
                     return at.held;
                 }
                 if (tale.failure == BY_STEPS) {
@@ -2168,9 +2152,10 @@ public final class StageConveyor {
             return caller.invoke(at, at.pipe.f, v, v);
         }
 
-        private boolean couldInvoke(Place at, Val v) {
+        /** Whether it could hold what f gives of v, or the next one from below if v is null. */
+        private boolean couldHold(Place at, Val v) {
             try {
-                at.held = caller.invoke(at, at.pipe.f, v, v);
+                at.held = v == null ? ask(at.below) : caller.invoke(at, at.pipe.f, v, v);
                 return true;
             } catch (IllegalStateException failed) {
                 return false;
@@ -2265,13 +2250,20 @@ public final class StageConveyor {
         }
     }
 
-    /** The ENDS. */
+    /** The ENDS: each takes the elements as they come, then tells the RESULT. */
     private static final class Ender {
         private final Stock stock;
         private final Caller caller;
         private final Line line;
         private final Place end;
-        /** Of END 14 (and 15): the group of each element, and of each group how many and what f gave. */
+        private long many;
+        private long sum;
+        private long least;
+        private long greatest;
+        private double total;
+        /** The VALUE that is the RESULT so far, or that has settled it. */
+        private Val so;
+        /** Of ENDS 14, 15: the group of each element; of each group how many, and what f gave. */
         private final int[] groupOf = new int[MOST_STEPS];
         private final int[] groupSize = new int[MOST_ELEMENTS];
         private final Val[] groupMark = new Val[MOST_ELEMENTS];
@@ -2287,186 +2279,142 @@ public final class StageConveyor {
         }
 
         Val conclude(int sort, int f, int a) {
+            begin(sort, a);
+            int wants = END_F[sort];
+            if (wants == COMPARATOR) {
+                line.gather(end, f);
+                return resultByOrder(sort, f, a);
+            }
+            for (int i = 0; i < MANY; i++) {
+                Val v = line.ask(end.below);
+                if (v == null) {
+                    break;
+                }
+                Val answer = wants == NOTHING ? v : caller.invoke(end, f, wants == TWO ? so : v, v);
+                if (takes(sort, a, v, answer)) {
+                    break;
+                }
+            }
+            return resultOf(sort);
+        }
+
+        private void begin(int sort, int a) {
+            many = 0;
+            sum = 0;
+            least = 0;
+            greatest = 0;
+            total = 0.0;
+            groups = 0;
+            groupSize[0] = 0;
+            groupSize[1] = 0;
+            so = sort == 9 ? stock.values[a] : sort == 16 ? caller.fresh().beWord(0, 0) : null;
+        }
+
+        /** Whether no further one is needed behind v, of which f gave the answer. */
+        private boolean takes(int sort, int a, Val v, Val answer) {
+            if (END_ELEMENT[sort] != ANY && END_ELEMENT[sort] != v.kind) {
+                caller.fail(end, BY_KIND);
+            }
+            many++;
             switch (sort) {
-                case 0:
-                    return howMany();
                 case 1:
-                    return sumOfLongs();
+                case 17:
+                    takeLong(v.whole);
+                    return false;
                 case 2:
-                    return sumOfReals();
-                case 3:
-                    return extreme(f, false);
-                case 4:
-                    return extreme(f, true);
+                    takeReal(v.real);
+                    return false;
                 case 5:
-                    return some(line.ask(end.below));
+                    so = v;
+                    return true;
                 case 6:
-                    return caller.fresh(meets(f, true) ? 1 : 0);
-                case 7:
-                    return caller.fresh(meets(f, false) ? 0 : 1);
                 case 8:
-                    return caller.fresh(meets(f, true) ? 0 : 1);
+                    so = caller.isYes(end, answer) ? v : null;
+                    return so != null;
+                case 7:
+                    so = caller.isYes(end, answer) ? null : v;
+                    return so != null;
                 case 9:
-                    return fold(f, stock.values[a]);
+                    so = answer;
+                    return false;
                 case 10:
-                    return listOfAll(false);
-                case 11:
-                    return numbered(a);
-                case 12:
-                    return callForEach(f);
                 case 13:
-                    return listOfAll(true);
+                    takeItem(v, sort == 13);
+                    return false;
+                case 11:
+                    so = many > a ? v : null;
+                    return so != null;
                 case 14:
-                    return grouping(f);
+                    takeInto(groupFor(answer), v);
+                    return false;
                 case 15:
-                    return parting(f);
+                    takeInto(caller.isYes(end, answer) ? 0 : 1, v);
+                    return false;
                 case 16:
-                    return joining();
+                    so = caller.joinedWord(end, so, v);
+                    return false;
+                case 19:
+                    so = v;
+                    return false;
+                default:
+                    return false;
+            }
+        }
+
+        private Val resultOf(int sort) {
+            switch (sort) {
+                case 1:
+                    return caller.fresh(sum);
+                case 2:
+                    return caller.fresh().beReal(total);
+                case 6:
+                    return caller.fresh(so != null ? 1 : 0);
+                case 7:
+                case 8:
+                    return caller.fresh(so != null ? 0 : 1);
+                case 5:
+                case 11:
+                case 19:
+                    return so != null ? so : caller.fail(end, BY_NONE);
+                case 9:
+                case 16:
+                    return so;
+                case 10:
+                case 13:
+                    return caller.listOf(end, end.count, end.items, 0, end.count);
+                case 14:
+                    return listOfGroups();
+                case 15:
+                    Val those = listOfGroup(0);
+                    return caller.pairOf(end, those, listOfGroup(1));
                 case 17:
                     return summary();
-                case 18:
-                    return greatest(f, a);
                 default:
-                    return last();
+                    return caller.fresh(many);
             }
         }
 
-        private Val some(Val v) {
-            return v == null ? caller.fail(end, BY_NONE) : v;
+        private void takeLong(long v) {
+            least = many == 1 || v < least ? v : least;
+            greatest = many == 1 || v > greatest ? v : greatest;
+            sum += v;
         }
 
-        /** The next one of a KIND, or null if it has ENDED. */
-        private Val askFor(int kind) {
-            Val v = line.ask(end.below);
-            return v == null || v.kind == kind ? v : caller.fail(end, BY_KIND);
+        private void takeReal(double v) {
+            total += v;
+            if (!isFinite(total)) {
+                caller.fail(end, BY_RANGE);
+            }
         }
 
-        private Val howMany() {
-            int many = 0;
-            while (many < MANY && line.ask(end.below) != null) {
-                many++;
+        private void takeItem(Val v, boolean different) {
+            if (different && end.hasItem(v)) {
+                return;
             }
-            return caller.fresh(many);
-        }
-
-        private Val sumOfLongs() {
-            long sum = 0;
-            for (int i = 0; i < MANY; i++) {
-                Val v = askFor(LONG);
-                if (v == null) {
-                    break;
-                }
-                sum += v.whole;
+            if (end.count >= MOST_ELEMENTS) {
+                caller.fail(end, BY_SIZE);
             }
-            return caller.fresh(sum);
-        }
-
-        private Val sumOfReals() {
-            double sum = 0.0;
-            for (int i = 0; i < MANY; i++) {
-                Val v = askFor(REAL);
-                if (v == null) {
-                    break;
-                }
-                sum += v.real;
-                if (!isFinite(sum)) {
-                    return caller.fail(end, BY_RANGE);
-                }
-            }
-            return caller.fresh().beReal(sum);
-        }
-
-        private Val extreme(int comparator, boolean isGreatest) {
-            line.gather(end, comparator);
-            if (end.count == 0) {
-                return caller.fail(end, BY_NONE);
-            }
-            int best = 0;
-            for (int i = 1; i < end.count; i++) {
-                int so = line.compare(end, comparator, i, best);
-                if (isGreatest ? so > 0 : so < 0) {
-                    best = i;
-                }
-            }
-            return end.items[best];
-        }
-
-        /** Whether there is one for which f HOLDS, or doesn't, as is wanted. */
-        private boolean meets(int f, boolean wanted) {
-            for (int i = 0; i < MANY; i++) {
-                Val v = line.ask(end.below);
-                if (v == null) {
-                    return false;
-                }
-                if (caller.holds(end, f, v) == wanted) {
-                    return true;
-                }
-            }
-            return false;
-        }
-
-        private Val fold(int f, Val first) {
-            Val so = first;
-            for (int i = 0; i < MANY; i++) {
-                Val v = line.ask(end.below);
-                if (v == null) {
-                    break;
-                }
-                so = caller.invoke(end, f, so, v);
-            }
-            return so;
-        }
-
-        private Val listOfAll(boolean different) {
-            for (int i = 0; i < MANY; i++) {
-                Val v = line.ask(end.below);
-                if (v == null) {
-                    break;
-                }
-                if (different && end.hasItem(v)) {
-                    continue;
-                }
-                if (end.count >= MOST_ELEMENTS) {
-                    return caller.fail(end, BY_SIZE);
-                }
-                end.put(v);
-            }
-            return caller.listOf(end, end.count, end.items, 0, end.count);
-        }
-
-        private Val numbered(int a) {
-            for (int i = 0; i < a; i++) {
-                some(line.ask(end.below));
-            }
-            return some(line.ask(end.below));
-        }
-
-        private Val callForEach(int f) {
-            int many = 0;
-            for (int i = 0; i < MANY; i++) {
-                Val v = line.ask(end.below);
-                if (v == null) {
-                    break;
-                }
-                caller.invoke(end, f, v, v);
-                many++;
-            }
-            return caller.fresh(many);
-        }
-
-        private Val grouping(int f) {
-            groups = 0;
-            for (int i = 0; i < MANY; i++) {
-                Val v = line.ask(end.below);
-                if (v == null) {
-                    break;
-                }
-                putInto(groupFor(caller.invoke(end, f, v, v)), v);
-            }
-            for (int g = 0; g < groups; g++) {
-                pairs[g] = caller.pairOf(end, groupMark[g], listOfGroup(g));
-            }
-            return caller.listOf(end, groups, pairs, 0, groups);
+            end.put(v);
         }
 
         /** The number of the group with this mark, a new one if there is none. */
@@ -2485,7 +2433,7 @@ public final class StageConveyor {
             return groups - 1;
         }
 
-        private void putInto(int group, Val v) {
+        private void takeInto(int group, Val v) {
             // each element has cost a CALL, so there are never more of them than STEPS
             if (groupSize[group] >= MOST_ELEMENTS || end.count >= MOST_STEPS) {
                 caller.fail(end, BY_SIZE);
@@ -2496,83 +2444,49 @@ public final class StageConveyor {
         }
 
         private Val listOfGroup(int group) {
-            int many = 0;
+            int found = 0;
             for (int i = 0; i < end.count; i++) {
-                if (groupOf[i] == group && many < MOST_ELEMENTS) {
-                    gathered[many] = end.items[i];
-                    many++;
+                if (groupOf[i] == group && found < MOST_ELEMENTS) {
+                    gathered[found] = end.items[i];
+                    found++;
                 }
             }
-            return caller.listOf(end, many, gathered, 0, many);
+            return caller.listOf(end, found, gathered, 0, found);
         }
 
-        /** Group 0 are those for which f HOLDS, group 1 the others. */
-        private Val parting(int f) {
-            groupSize[0] = 0;
-            groupSize[1] = 0;
-            for (int i = 0; i < MANY; i++) {
-                Val v = line.ask(end.below);
-                if (v == null) {
-                    break;
-                }
-                putInto(caller.holds(end, f, v) ? 0 : 1, v);
+        private Val listOfGroups() {
+            for (int g = 0; g < groups; g++) {
+                pairs[g] = caller.pairOf(end, groupMark[g], listOfGroup(g));
             }
-            Val those = listOfGroup(0);
-            return caller.pairOf(end, those, listOfGroup(1));
-        }
-
-        private Val joining() {
-            Val so = caller.fresh().beWord(0, 0);
-            for (int i = 0; i < MANY; i++) {
-                Val v = askFor(WORD);
-                if (v == null) {
-                    break;
-                }
-                so = caller.joinedWord(end, so, v);
-            }
-            return so;
+            return caller.listOf(end, groups, pairs, 0, groups);
         }
 
         private Val summary() {
-            long many = 0;
-            long sum = 0;
-            long least = 0;
-            long greatest = 0;
-            for (int i = 0; i < MANY; i++) {
-                Val v = askFor(LONG);
-                if (v == null) {
-                    break;
-                }
-                least = many == 0 || v.whole < least ? v.whole : least;
-                greatest = many == 0 || v.whole > greatest ? v.whole : greatest;
-                sum += v.whole;
-                many++;
-            }
             gathered[0] = caller.fresh(many);
             gathered[1] = caller.fresh(sum);
             gathered[2] = caller.fresh(least);
             gathered[3] = caller.fresh(greatest);
-            int told = many == 0 ? 2 : 4;
-            return caller.listOf(end, told, gathered, 0, told);
+            int toldOf = many == 0 ? 2 : 4;
+            return caller.listOf(end, toldOf, gathered, 0, toldOf);
         }
 
-        private Val greatest(int comparator, int a) {
-            line.gather(end, comparator);
-            line.sort(end, comparator, true);
-            int many = a < end.count ? a : end.count;
-            return caller.listOf(end, many, end.items, 0, many);
-        }
-
-        private Val last() {
-            Val latest = null;
-            for (int i = 0; i < MANY; i++) {
-                Val v = line.ask(end.below);
-                if (v == null) {
-                    break;
-                }
-                latest = v;
+        private Val resultByOrder(int sort, int f, int a) {
+            if (sort == 18) {
+                line.sort(end, f, true);
+                int first = a < end.count ? a : end.count;
+                return caller.listOf(end, first, end.items, 0, first);
             }
-            return some(latest);
+            if (end.count == 0) {
+                return caller.fail(end, BY_NONE);
+            }
+            int best = 0;
+            for (int i = 1; i < end.count; i++) {
+                int byOrder = line.compare(end, f, i, best);
+                if (sort == 4 ? byOrder > 0 : byOrder < 0) {
+                    best = i;
+                }
+            }
+            return end.items[best];
         }
     }
 
