@@ -721,7 +721,8 @@ public final class StageConveyor {
         }
         int top = rewriter.base;
         for (int i = 0; i < rewriter.length; i++) {
-            top = enterPipe(stock.stageOn(top, rewriter.sorts[i], rewriter.fs[i], rewriter.as[i]));
+            int sort = rewriter.sorts[i];
+            top = enterPipe(stock.stageOn(top, sort, rewriter.fs[i], rewriter.amounts[i]));
         }
         int spentOne = spend(p) ? p : -1;
         noteBuilding(BUILT_REWRITE, rewriter.length, rewriter.madeCount, spentOne, -1);
@@ -1117,7 +1118,7 @@ public final class StageConveyor {
 
         /** How many KEYS; -1 as a COMPARATOR has none. */
         int keysOf(int c) {
-            return hasComparator(c) ? keyCount[c] : 0;
+            return c >= 0 && c < comparatorCount ? keyCount[c] : 0;
         }
 
         int refusalOfF(int wants, int f) {
@@ -2055,7 +2056,7 @@ public final class StageConveyor {
 
         /** Whether as many could be had. */
         private boolean fill(Place at, int many) {
-            while (at.count < many) {
+            for (int i = at.count; i < many; i++) {
                 Val v = ask(at.below);
                 if (v == null) {
                     return false;
@@ -2496,7 +2497,7 @@ public final class StageConveyor {
         /** The stages, from below on. */
         final int[] sorts = new int[MOST_PIPELINE_SIZE];
         final int[] fs = new int[MOST_PIPELINE_SIZE];
-        final int[] as = new int[MOST_PIPELINE_SIZE];
+        final int[] amounts = new int[MOST_PIPELINE_SIZE];
         int length;
         /** The one below that is no stage. */
         int base;
@@ -2542,7 +2543,7 @@ public final class StageConveyor {
                 Pipe pipe = stock.pipes[at];
                 sorts[i] = pipe.sort;
                 fs[i] = pipe.f;
-                as[i] = pipe.a;
+                amounts[i] = pipe.a;
                 at = pipe.below;
             }
         }
@@ -2605,11 +2606,11 @@ public final class StageConveyor {
         private void become(int k, int x, int y) {
             switch (k) {
                 case 0:
-                    as[x] += as[y];
+                    amounts[x] += amounts[y];
                     break;
                 case 1:
                 case 8:
-                    as[x] = as[x] < as[y] ? as[x] : as[y];
+                    amounts[x] = amounts[x] < amounts[y] ? amounts[x] : amounts[y];
                     break;
                 case 2:
                     sorts[x] = CACHED;
@@ -2632,7 +2633,7 @@ public final class StageConveyor {
             for (int i = gone; i + 1 < length; i++) {
                 sorts[i] = sorts[i + 1];
                 fs[i] = fs[i + 1];
-                as[i] = as[i + 1];
+                amounts[i] = amounts[i + 1];
             }
             length--;
         }

@@ -28,6 +28,13 @@ final class Check {
         }
     }
 
+    void due(String want, String got) {
+        looked++;
+        if (!want.equals(got)) {
+            tell("answered " + got + ", due is " + want);
+        }
+    }
+
     /** A call of the face that may throw. */
     interface Call {
         void make();
@@ -38,9 +45,9 @@ final class Check {
         try {
             call.make();
             tell("threw nothing, due is IllegalArgumentException");
-        } catch (IllegalArgumentException e) {
+        } catch (RuntimeException e) {
             if (e.getClass() != IllegalArgumentException.class) {
-                tell("threw " + e);
+                tell("threw " + e + ", due is IllegalArgumentException");
             }
         }
     }
@@ -54,10 +61,9 @@ final class Check {
 
     private void tell(String what) {
         wrong++;
-        StackTraceElement[] trace = new Throwable().getStackTrace();
         int line = 0;
-        for (StackTraceElement e : trace) {
-            if (!e.getClassName().startsWith("Check")) {
+        for (StackTraceElement e : new Throwable().getStackTrace()) {
+            if (e.getClassName().equals(name)) {
                 line = e.getLineNumber();
                 break;
             }
