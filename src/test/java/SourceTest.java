@@ -154,7 +154,7 @@ public final class SourceTest {
         c.due("3 -1 -1 0 3 1 1 1 0", looked(x, 0));
         c.due("[0.5, 0.75, 1.0]", Kit.all(x, 0));
         c.due(6, x.count(4));
-        c.due("[-0.0]".replace("-", ""), Kit.all(x, x.steps(-0.0, -0.0, 1)));
+        c.due("[0.0]", Kit.all(x, x.steps(-0.0, -0.0, 1)));
         // start + k * by, not one added to the other
         c.due("[0.0, 0.1, 0.2, 0.30000000000000004, 0.4, 0.5, 0.6000000000000001]",
                 Kit.all(x, x.steps(0.0, 0.1, 7)));
