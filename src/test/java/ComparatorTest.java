@@ -54,6 +54,8 @@ public final class ComparatorTest {
         c.due("[2, -2, 4, 1, 3, -3]", sorted(x, p, three));
         int turned = x.then(down, two);
         c.due("[4, 3, 2, 1, -2, -3]", sorted(x, p, turned));
+        int last = x.then(even, x.key(x.basic(1), true));
+        c.due("[4, -2, 2, 3, -3, 1]", sorted(x, p, last));
         int four = x.then(two, two);
         c.due("[-2, 2, 4, 1, 3, -3]", sorted(x, p, four));
         c.due(4 * 6, x.count(5));

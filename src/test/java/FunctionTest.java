@@ -162,6 +162,7 @@ public final class FunctionTest {
         c.due(5, x.count(4));
         c.due("[]", ofWord(13, ""));
         c.due("\"z\"", ofWord(14, "zab"));
+        c.due("\"y\"", ofWord(14, "y"));
         c.due("fails 3", ofWord(14, ""));
     }
 

@@ -21,6 +21,7 @@ public final class RunTest {
         takesSteps();
         refused();
         spent();
+        many();
         allTaken();
         c.finish();
     }
@@ -67,6 +68,10 @@ public final class RunTest {
         int p = longs(3, -1, 5, -5, 1);
         c.due("-5", Kit.run(x, p, 3, -1, 0));
         c.due("5", Kit.run(x, p, 4, -1, 0));
+        c.due("1", Kit.run(x, x.range(1, 4), 3, -1, 0));
+        c.due("3", Kit.run(x, x.stage(x.range(1, 4), 21, 0, 0), 4, -1, 0));
+        c.due("7", Kit.run(x, x.range(7, 8), 3, -1, 0));
+        c.due("7", Kit.run(x, x.range(7, 8), 4, -1, 0));
         int size = x.basic(1);
         int up = x.key(size, false);
         int down = x.key(size, true);
@@ -410,6 +415,34 @@ public final class RunTest {
         c.due(0, x.run(p, 0, 0, 0));
         c.due(0, x.run(p, 0, 0, 0));
         c.due(0, x.look(p, 8));
+    }
+
+    /** FLAT and BESIDE give much more than there are STEPS. */
+    private static void many() {
+        c.about("promise 20, many elements");
+        x = new StageConveyor();
+        int one = x.whole(1);
+        int list = 0;
+        for (int i = 0; i < 40; i++) {
+            list = x.cons(one, list);
+        }
+        int always = x.bind(x.basic(50), list, true);
+        int flat = x.stage(x.range(0, 199), 13, always, 0);
+        c.due("7960", Kit.run(x, flat, 0, 0, 0));
+        c.due(199 * 3, x.count(4));
+        int so = flat;
+        for (int i = 0; i < 4; i++) {
+            so = x.stage(so, 24, 0, 0);
+        }
+        int sorted = x.stage(x.stage(x.stage(so, 30, 0, 0), 20, -1, 0), 21, 0, 0);
+        c.due("7956", Kit.run(x, sorted, 0, 0, 0));
+        c.due("7956", Kit.run(x, sorted, 0, 0, 0));
+        c.due("1", Kit.run(x, x.stage(sorted, 19, 0, 0), 0, 0, 0));
+        c.due("7960", Kit.run(x, flat, 1, 0, 0));
+        c.due(3, x.run(so, 19, 0, 0));
+        c.due("((((1, 1), (1, 1)), ((1, 1), (1, 1))), (((1, 1), (1, 1)), ((1, 1), (1, 1))))", Kit.result(x));
+        int numbers = x.stage(flat, 12, x.basic(0), 0);
+        c.due("fails 9 at " + numbers + " given 558", Kit.run(x, numbers, 0, 0, 0));
     }
 
     private static void allTaken() {

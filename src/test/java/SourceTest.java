@@ -356,6 +356,13 @@ public final class SourceTest {
         c.due(-5, x.both(p, letters, 8, 0));
         c.due(-5, x.both(letters, p, 10, 0));
         c.due(-3, x.both(p, letters, 9, plus));
+        StageConveyor y = new StageConveyor();
+        int first = y.row(Kit.word(y, "ab"));
+        y.both(y.range(0, 1), first, 8, 0);
+        c.due(0, first);
+        c.due(1, y.look(first, 8));
+        c.due(3, y.undo());
+        c.due(0, y.look(first, 8));
         int half = x.both(p, x.row(Kit.word(x, "e")), 8, 0);
         c.due(0, x.look(half, 7));
         c.due(0, x.look(p, 8));

@@ -156,6 +156,9 @@ public final class StageTest {
         c.due(5, x.given(p));
         int all = longs(2, 4);
         c.due("[2, 4]", Kit.all(x, x.stage(all, 17, even, 0)));
+        // one that has ENDED isn't asked any further
+        c.due("[2, 4, 2, 4]", Kit.all(x, x.both(w, all, 8, 0)));
+        c.due(3, x.given(p));
         c.due("[]", Kit.all(x, x.stage(all, 18, even, 0)));
         int other = x.bind(x.basic(49), x.word(1), false);
         int bad = x.stage(p, 17, other, 0);
@@ -180,6 +183,10 @@ public final class StageTest {
         // one of the same HASH (8 x cut towards 0) is another all the same
         int q = Kit.row(x, x.real(0.01), x.real(0.02), x.real(0.01));
         c.due("[0.01, 0.02]", Kit.all(x, x.stage(q, 19, 0, 0)));
+        int rows = x.stage(q, 12, x.basic(23), 0);
+        c.due("[[0.01], [0.02]]", Kit.all(x, x.stage(rows, 19, 0, 0)));
+        int pairs = x.stage(x.row(Kit.list(x, 1, 2)), 12, x.basic(26), 0);
+        c.due("[(1, 1)]", Kit.all(x, x.stage(pairs, 19, 0, 0)));
     }
 
     private static void sorted() {
@@ -203,6 +210,9 @@ public final class StageTest {
         int down = x.key(x.basic(15), true);
         c.due("[(2, 1), (2, 2), (1, 2), (1, 1)]", Kit.all(x, x.stage(q, 20, down, 0)));
         c.due("[]", Kit.all(x, x.stage(x.range(0, 0), 20, -1, 0)));
+        // REALS that are alike, too
+        int real = x.key(x.behind(x.basic(7), x.basic(1)), false);
+        c.due("[1, -1, 2, -2]", Kit.all(x, x.stage(longs(2, 1, -2, -1), 20, real, 0)));
         int bad = x.stage(p, 20, first, 0);
         c.due("fails 1 at " + bad + " given 0", Kit.all(x, bad));
         c.due(1, x.given(p));
@@ -215,6 +225,7 @@ public final class StageTest {
         int r = x.stage(p, 21, 5, 5);
         c.due("21 0 -1 0 0 2 0 1 0", looked(r));
         c.due("[3, 2, 1, 0]", Kit.all(x, r));
+        c.due(8, x.count(4));
         c.due("3", Kit.run(x, r, 5, 0, 0));
         c.due(4, x.given(p));
         c.due(1, x.given(r));
@@ -449,6 +460,7 @@ public final class StageTest {
         int real = x.basic(7);
         int up = x.key(one, false);
         int both = x.then(x.key(x.basic(24), false), up);
+        int other = x.then(x.key(x.basic(24), false), x.key(wordy, true));
         int p = x.range(0, 3);
         int words = x.row(Kit.word(x, "ab"));
         int known = x.count(3);
@@ -469,6 +481,7 @@ public final class StageTest {
         c.due(-2, x.stage(p, 20, x.count(2), 0));
         c.due(-3, x.stage(words, 20, up, 0));
         c.due(-3, x.stage(words, 20, both, 0));
+        c.due(-3, x.stage(p, 20, other, 0));
         // an answer that doesn't FIT LONG
         c.due(-3, x.stage(p, 11, real, 0));
         c.due(-3, x.stage(p, 17, real, 0));

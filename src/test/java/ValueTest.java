@@ -109,6 +109,15 @@ public final class ValueTest {
         c.due(-4, y.pair(1, deep));
         c.due(-4, y.cons(deep, 0));
         c.due(11, y.count(0));
+        StageConveyor r = new StageConveyor();
+        int real = r.real(0.5);
+        int letters = r.word(1);
+        int nested = r.pair(real, letters);
+        for (int depth = 3; depth <= 10; depth++) {
+            nested = r.pair(nested, real);
+            c.due(1, nested > 0 ? 1 : 0);
+        }
+        c.due(-4, r.pair(nested, real));
         c.about("promise 5, WEIGHT");
         StageConveyor z = new StageConveyor();
         int heavy = z.whole(1);
