@@ -6,6 +6,7 @@ public final class ComparatorTest {
         key();
         then();
         once();
+        anew();
         c.finish();
     }
 
@@ -68,6 +69,29 @@ public final class ComparatorTest {
         c.due(-2, x.then(even, known));
         c.due(known, x.count(2));
         c.due(known, x.then(three, even));
+    }
+
+    /** One that undo() took leaves nothing to the next with its number. */
+    private static void anew() {
+        c.about("promises 11, 12 and 38");
+        StageConveyor x = new StageConveyor();
+        int f = x.basic(5);
+        int g = x.basic(1);
+        int p = x.row(Kit.longs(x, 4, -3, 2, 1));
+        int even = x.key(f, true);
+        int size = x.key(g, false);
+        int both = x.then(even, size);
+        c.due("[2, 4, 1, -3]", sorted(x, p, both));
+        x.undo();
+        c.due(2, x.undo());
+        c.due(both, x.then(size, even));
+        c.due("[1, 2, -3, 4]", sorted(x, p, both));
+        c.due(8, x.count(5));
+        x.undo();
+        c.due(2, x.undo());
+        c.due(both, x.key(g, true));
+        c.due("[4, -3, 2, 1]", sorted(x, p, both));
+        c.due(4, x.count(5));
     }
 
     /** Keys are called once for each VALUE, one after the other, as it comes. */

@@ -292,6 +292,9 @@ public final class FunctionTest {
         c.due("1", of(44, ab, z));
         c.due("0", of(44, z, ab));
         c.due("0", of(44, z, z));
+        c.due("0", ofTwoReal(44, 0.5, 0.5));
+        c.due("1", ofTwoReal(44, 0.25, 0.5));
+        c.due("0", ofTwo(44, 5, 5));
         x = new StageConveyor();
         int one = x.whole(1);
         int onePointNought = x.real(1.0);

@@ -195,6 +195,8 @@ public final class RewriteTest {
         c.due(x.look(so, 6), x.look(made, 6));
         c.due(7, x.look(made, 5));
         c.due(0, x.look(made - 1, 8));
+        c.due(so + 6, made);
+        c.due("15:0:3 16:0:5 29:0:7", stages(x.rewrite(over(p, 15, 0, 1, 15, 0, 2, 16, 0, 5, 29, 0, 7))));
     }
 
     private static void nothing() {

@@ -77,6 +77,9 @@ public final class RunTest {
         int down = x.key(size, true);
         // of those that are alike the first
         c.due("-1", Kit.run(x, p, 3, up, 0));
+        int real = x.key(x.behind(x.basic(7), size), false);
+        c.due("-1", Kit.run(x, p, 3, real, 0));
+        c.due("5", Kit.run(x, p, 4, real, 0));
         c.due(5, x.calls(size));
         c.due("5", Kit.run(x, p, 4, up, 0));
         c.due("5", Kit.run(x, p, 3, down, 0));
@@ -208,7 +211,16 @@ public final class RunTest {
         c.due("[]", Kit.run(x, x.range(0, 0), 14, even, 0));
         int f = x.bind(x.basic(49), x.word(1), false);
         c.due("[(\"a\", [2, 3, 4, 5, 6])]", Kit.run(x, p, 14, f, 0));
-        // LISTS of the groups are made first: 33 of them are too heavy together
+        // one RUN leaves nothing to the next
+        int rest = x.bind(x.basic(34), x.whole(3), true);
+        int thirty = x.range(0, 60);
+        for (int i = 0; i < 4; i++) {
+            c.due("[(0, [0, 3, 6, 9,", Kit.run(x, thirty, 14, rest, 0).substring(0, 17));
+        }
+        for (int i = 0; i < 4; i++) {
+            c.due(3, x.run(thirty, 15, even, 0));
+        }
+        // 25 PAIRS with their LISTS are too heavy together
         int itself = x.basic(1);
         int q = x.range(0, 24);
         c.due(4, x.run(q, 14, itself, 0));

@@ -118,6 +118,11 @@ public final class ValueTest {
             c.due(1, nested > 0 ? 1 : 0);
         }
         c.due(-4, r.pair(nested, real));
+        nested = r.pair(letters, letters);
+        for (int depth = 3; depth <= 10; depth++) {
+            nested = r.pair(nested, letters);
+        }
+        c.due(-4, r.pair(nested, letters));
         c.about("promise 5, WEIGHT");
         StageConveyor z = new StageConveyor();
         int heavy = z.whole(1);
