@@ -112,7 +112,7 @@ public final class ValueTest {
         StageConveyor r = new StageConveyor();
         int real = r.real(0.5);
         int letters = r.word(1);
-        int nested = r.pair(real, letters);
+        int nested = r.pair(real, real);
         for (int depth = 3; depth <= 10; depth++) {
             nested = r.pair(nested, real);
             c.due(1, nested > 0 ? 1 : 0);
