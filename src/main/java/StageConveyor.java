@@ -722,6 +722,7 @@ public final class StageConveyor {
         int top = rewriter.base;
         for (int i = 0; i < rewriter.length; i++) {
             int sort = rewriter.sorts[i];
+            spend(top);
             top = enterPipe(stock.stageOn(top, sort, rewriter.fs[i], rewriter.amounts[i]));
         }
         int spentOne = spend(p) ? p : -1;

@@ -291,6 +291,15 @@ public final class RewriteTest {
         c.due("100000000", rules());
         c.due("[\"c\", \"d\"]", Kit.all(x, made));
         c.due(-5, x.rewrite(made));
+        // and another one of each new stage but the last
+        int others = over(x.row(Kit.word(x, "abcd")), 15, 0, 1, 15, 0, 1, 16, 0, 1, 30, 0, 0);
+        int top = x.rewrite(others);
+        c.due("15:0:2 16:0:1 30:0:0", stages(top));
+        c.due(0, x.look(top, 8));
+        c.due(1, x.look(top - 1, 8));
+        c.due(1, x.look(top - 2, 8));
+        c.due(-5, x.run(top - 1, 0, 0, 0));
+        c.due("[\"c\"]", Kit.all(x, top));
         while (x.count(3) < 80) {
             x.range(0, 1);
         }
