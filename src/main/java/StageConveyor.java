@@ -2621,7 +2621,8 @@ public final class StageConveyor {
                     fs[x] = fs[y];
                     break;
                 case 7:
-                    made[madeCount] = Fun.ofBoth(fs[y], functionAt(fs[y]), fs[x], functionAt(fs[x]));
+                    Fun last = functionAt(fs[y]);
+                    made[madeCount] = Fun.ofBoth(fs[y], last, fs[x], functionAt(fs[x]));
                     fs[x] = stock.functionCount + madeCount;
                     madeCount++;
                     break;

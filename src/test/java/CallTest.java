@@ -146,7 +146,7 @@ public final class CallTest {
         // those that a rewrite() makes are new, too
         int s = x.stage(q, 12, g, 0);
         x.run(s, 0, 0, 0);
-        c.due(1, x.undo() - 2);
+        c.due(3, x.undo());
         int t = x.stage(q, 12, g, 0);
         int made = x.rewrite(t);
         c.due(0, x.given(made));
