@@ -21,6 +21,10 @@ final class Check {
         }
     }
 
+    void due(boolean want, boolean got) {
+        due(want ? 1L : 0L, got ? 1L : 0L);
+    }
+
     void due(double want, double got) {
         looked++;
         if (Double.doubleToRawLongBits(want) != Double.doubleToRawLongBits(got)) {
@@ -38,6 +42,11 @@ final class Check {
     /** A call of the face that may throw. */
     interface Call {
         void make();
+    }
+
+    /** A call of the face that answers a number. */
+    interface Answer {
+        int of(StageConveyor x);
     }
 
     void dueThrow(Call call) {
@@ -61,13 +70,17 @@ final class Check {
 
     private void tell(String what) {
         wrong++;
-        int line = 0;
+        System.out.println(name + ".java" + lines() + " (" + about + "): " + what);
+    }
+
+    /** The test's own lines, the innermost first: a helper's line alone tells too little. */
+    private String lines() {
+        StringBuilder so = new StringBuilder();
         for (StackTraceElement e : new Throwable().getStackTrace()) {
-            if (e.getClassName().equals(name)) {
-                line = e.getLineNumber();
-                break;
+            if (e.getClassName().equals(name) && !e.getMethodName().equals("main")) {
+                so.append(':').append(e.getLineNumber());
             }
         }
-        System.out.println(name + ".java:" + line + " (" + about + "): " + what);
+        return so.toString();
     }
 }

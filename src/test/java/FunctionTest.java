@@ -148,7 +148,7 @@ public final class FunctionTest {
         c.due("0.0", ofReal(9, 0.0));
         c.due("0.75", ofReal(10, 1.5));
         c.due("0.0", ofReal(10, -Double.MIN_VALUE));
-        c.due("1.0E-323", ofReal(10, 3 * Double.MIN_VALUE));
+        c.due(Double.toString(2 * Double.MIN_VALUE), ofReal(10, 3 * Double.MIN_VALUE));
     }
 
     private static void ofWords() {

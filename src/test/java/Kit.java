@@ -34,9 +34,45 @@ final class Kit {
         return made;
     }
 
+    /** The LIST of n times one VALUE. */
+    static int times(StageConveyor x, int value, int n) {
+        int made = 0;
+        for (int i = 0; i < n; i++) {
+            made = x.cons(value, made);
+        }
+        return made;
+    }
+
+    /** A LIST of this WEIGHT, from 11 to 100: others of 10 in it, and what is left as LONGS. */
+    static int heavy(StageConveyor x, int weight) {
+        int one = x.whole(1);
+        int ten = times(x, one, 9);
+        int made = times(x, ten, (weight - 1) / 10);
+        for (int i = 0; i < (weight - 1) % 10; i++) {
+            made = x.cons(one, made);
+        }
+        return made;
+    }
+
+    /** PAIRS in one another, of this DEPTH (1: a LONG). */
+    static int deep(StageConveyor x, int depth) {
+        int one = x.whole(1);
+        int made = one;
+        for (int i = 1; i < depth; i++) {
+            made = x.pair(made, one);
+        }
+        return made;
+    }
+
     /** A PIPELINE of these VALUES. */
     static int row(StageConveyor x, int... values) {
         return x.row(list(x, values));
+    }
+
+    /** A PIPELINE of just this VALUE, of KIND ANY; no LIST is around it, so it may be the largest. */
+    static int only(StageConveyor x, int value) {
+        int itself = x.bind(x.basic(49), 0, true);
+        return x.iterate(itself, value, 1, false);
     }
 
     /** The RESULT of the latest RUN, written out: 7, 0.5, "ab", (1, 2), [1, 2]; or none. */
