@@ -27,13 +27,13 @@ public final class ForetellTest {
         c.due(0, x.given(p));
         c.due("4", Kit.run(x, p, 19, 0, 0));
         c.due(15, x.count(6));
-        String before = Kit.state(x);
+        String before = Kit.besidesSteps(x);
         c.due(-107, x.foretell(bad, 10, 0, 0));
         c.due(-108, x.foretell(words, 10, 0, 0));
         c.due(0, x.foretell(p, 12, f, 0));
         c.due(15 + 2 + 4 + 10, x.count(6));
         // nothing changes, but the STEPS of all
-        c.due(before.replace(" 15 ", " 31 "), Kit.state(x));
+        c.due(before, Kit.besidesSteps(x));
         // not SPENT by it
         c.due(0, x.look(words, 8));
         c.due(-108, x.foretell(words, 10, 0, 0));

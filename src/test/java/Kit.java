@@ -161,15 +161,31 @@ final class Kit {
 
     /** All that can be asked without changing anything, to see that nothing has changed. */
     static String state(StageConveyor x) {
+        return "STEPS of all " + x.count(6) + ", " + besidesSteps(x);
+    }
+
+    /** state() without the STEPS of all, which foretold RUNS take, too. */
+    static String besidesSteps(StageConveyor x) {
+        return "rules " + rules(x) + ", " + besidesRules(x);
+    }
+
+    /** How often each rule was used in the latest rewrite(). */
+    static String rules(StageConveyor x) {
+        StringBuilder so = new StringBuilder();
+        for (int k = 0; k < 9; k++) {
+            so.append(x.rule(k));
+        }
+        return so.toString();
+    }
+
+    /** besidesSteps() without rule(), which undo() leaves as it is. */
+    static String besidesRules(StageConveyor x) {
         StringBuilder so = new StringBuilder();
         for (int i = 0; i < 8; i++) {
-            so.append(x.count(i)).append(' ');
+            so.append(i == 6 ? "" : x.count(i) + " ");
         }
         for (int i = 0; i < 5; i++) {
             so.append(x.failure(i)).append(' ');
-        }
-        for (int k = 0; k < 9; k++) {
-            so.append(x.rule(k)).append(' ');
         }
         for (int p = 0; p < x.count(3); p++) {
             for (int what = 0; what < 9; what++) {

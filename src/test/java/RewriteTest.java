@@ -26,14 +26,6 @@ public final class RewriteTest {
         return so.toString().trim();
     }
 
-    private static String rules() {
-        StringBuilder so = new StringBuilder();
-        for (int k = 0; k < 9; k++) {
-            so.append(x.rule(k));
-        }
-        return so.toString();
-    }
-
     private static int over(int p, int... sortsAndAmounts) {
         int so = p;
         for (int i = 0; i < sortsAndAmounts.length; i += 3) {
@@ -49,16 +41,16 @@ public final class RewriteTest {
         int made = x.rewrite(over(p, 15, 0, 2, 15, 0, 3));
         c.due(3, made);
         c.due("15:0:5", stages(made));
-        c.due("100000000", rules());
+        c.due("100000000", Kit.rules(x));
         c.due(4, x.run(made, 10, 0, 0));
         c.due("15:0:2000", stages(x.rewrite(over(p, 15, 0, 1000, 15, 0, 1000))));
         c.due("15:0:6", stages(x.rewrite(over(p, 15, 0, 1, 15, 0, 2, 15, 0, 3))));
-        c.due("200000000", rules());
+        c.due("200000000", Kit.rules(x));
         c.due("16:0:3", stages(x.rewrite(over(p, 16, 0, 7, 16, 0, 3))));
-        c.due("010000000", rules());
+        c.due("010000000", Kit.rules(x));
         c.due("16:0:3", stages(x.rewrite(over(p, 16, 0, 3, 16, 0, 7))));
         c.due("29:0:9", stages(x.rewrite(over(p, 29, 0, 9, 29, 0, 12))));
-        c.due("000000001", rules());
+        c.due("000000001", Kit.rules(x));
         c.due("29:0:9", stages(x.rewrite(over(p, 29, 0, 12, 29, 0, 9))));
         // what is between them keeps them apart
         int apart = over(p, 15, 0, 2, 16, 0, 9, 15, 0, 3);
@@ -71,25 +63,25 @@ public final class RewriteTest {
         int key = x.key(x.basic(1), true);
         int p = x.range(0, 9);
         c.due("30:0:0", stages(x.rewrite(over(p, 21, 0, 0, 21, 0, 0))));
-        c.due("001000000", rules());
+        c.due("001000000", Kit.rules(x));
         c.due("19:0:0", stages(x.rewrite(over(p, 19, 0, 0, 19, 0, 0))));
-        c.due("000100000", rules());
+        c.due("000100000", Kit.rules(x));
         c.due("20:-1:0", stages(x.rewrite(over(p, 20, -1, 0, 20, -1, 0))));
-        c.due("000010000", rules());
+        c.due("000010000", Kit.rules(x));
         c.due("20:0:0", stages(x.rewrite(over(p, 20, key, 0, 20, key, 0))));
         int two = over(p, 20, key, 0, 20, -1, 0);
         c.due(two, x.rewrite(two));
-        c.due("000000000", rules());
+        c.due("000000000", Kit.rules(x));
         c.due("20:-1:0", stages(x.rewrite(over(p, 30, 0, 0, 20, -1, 0))));
-        c.due("000001000", rules());
+        c.due("000001000", Kit.rules(x));
         c.due("21:0:0", stages(x.rewrite(over(p, 30, 0, 0, 21, 0, 0))));
-        c.due("000001000", rules());
+        c.due("000001000", Kit.rules(x));
         c.due("30:0:0", stages(x.rewrite(over(p, 30, 0, 0, 30, 0, 0))));
-        c.due("000001000", rules());
+        c.due("000001000", Kit.rules(x));
         c.due("20:0:0", stages(x.rewrite(over(p, 20, key, 0, 30, 0, 0))));
-        c.due("000000100", rules());
+        c.due("000000100", Kit.rules(x));
         c.due("21:0:0", stages(x.rewrite(over(p, 21, 0, 0, 30, 0, 0))));
-        c.due("000000100", rules());
+        c.due("000000100", Kit.rules(x));
         // REVERSED and SORTED are no neighbours of a rule
         int other = over(p, 21, 0, 0, 20, -1, 0);
         c.due(other, x.rewrite(other));
@@ -105,7 +97,7 @@ public final class RewriteTest {
         int two = over(p, 12, negated, 0, 12, squared, 0);
         int made = x.rewrite(two);
         c.due("12:3:0", stages(made));
-        c.due("000000010", rules());
+        c.due("000000010", Kit.rules(x));
         c.due(4, x.count(1));
         c.due(3, x.shape(3, 4));
         c.due(1, x.equal(two, made, 10, 0, 0));
@@ -115,7 +107,7 @@ public final class RewriteTest {
         int three = over(p, 12, squared, 0, 12, negated, 0, 12, real, 0);
         int all = x.rewrite(three);
         c.due("12:5:0", stages(all));
-        c.due("000000020", rules());
+        c.due("000000020", Kit.rules(x));
         c.due(6, x.count(1));
         c.due(5, x.shape(5, 4));
         c.due(1, x.shape(5, 3));
@@ -150,16 +142,16 @@ public final class RewriteTest {
         int p = x.range(0, 9);
         // (21 21) 21 -> 30 21 -> 21
         c.due("21:0:0", stages(x.rewrite(over(p, 21, 0, 0, 21, 0, 0, 21, 0, 0))));
-        c.due("001001000", rules());
+        c.due("001001000", Kit.rules(x));
         // 30 21 21, then 21 21, then 30
         c.due("30:0:0", stages(x.rewrite(over(p, 21, 0, 0, 21, 0, 0, 21, 0, 0, 21, 0, 0))));
-        c.due("002001000", rules());
+        c.due("002001000", Kit.rules(x));
         // SORTED CACHED SORTED: the former first, then twice by one
         c.due("20:-1:0", stages(x.rewrite(over(p, 20, -1, 0, 30, 0, 0, 20, -1, 0))));
-        c.due("000010100", rules());
+        c.due("000010100", Kit.rules(x));
         int long5 = over(p, 16, 0, 9, 15, 0, 1, 15, 0, 1, 21, 0, 0, 21, 0, 0);
         c.due("16:0:9 15:0:2 30:0:0", stages(x.rewrite(long5)));
-        c.due("101000000", rules());
+        c.due("101000000", Kit.rules(x));
         // only p's own stages are looked at, not those above it
         int below = over(p, 15, 0, 1);
         over(below, 15, 0, 1);
@@ -183,7 +175,7 @@ public final class RewriteTest {
                 so = below >= 0 ? below : so;
             }
             c.due(so, x.rewrite(so));
-            c.due("000000000", rules());
+            c.due("000000000", Kit.rules(x));
         }
         int mixed = over(p, 15, 0, 1, 16, 0, 1, 19, 0, 0, 29, 0, 1, 30, 0, 0, 19, 0, 0);
         c.due(mixed, x.rewrite(mixed));
@@ -211,9 +203,9 @@ public final class RewriteTest {
         c.due(buildings, x.count(7));
         // rule() tells 0 of all then
         x.rewrite(over(s, 15, 0, 1));
-        c.due("100000000", rules());
+        c.due("100000000", Kit.rules(x));
         c.due(s, x.rewrite(s));
-        c.due("000000000", rules());
+        c.due("000000000", Kit.rules(x));
         int words = x.row(Kit.word(x, "ab"));
         c.due(words, x.rewrite(words));
         c.due(0, x.look(words, 8));
@@ -228,7 +220,7 @@ public final class RewriteTest {
         int so = over(opened, 16, 0, 5, 16, 0, 4);
         int made = x.rewrite(so);
         c.due("16:0:4", stages(made));
-        c.due("010000000", rules());
+        c.due("010000000", Kit.rules(x));
         c.due(opened, x.look(made, 1));
         c.due(5, x.look(made, 5));
         c.due("[2, 3, 4, 5]", Kit.all(x, made));
@@ -258,7 +250,7 @@ public final class RewriteTest {
         c.due(1, x.rewrite(two) > 0 ? 1 : 0);
         c.due(60, x.count(1));
         c.due(-4, x.rewrite(two));
-        c.due("000000010", rules());
+        c.due("000000010", Kit.rules(x));
         while (x.count(3) < 78) {
             x.range(0, 1);
         }
@@ -270,7 +262,7 @@ public final class RewriteTest {
         c.due(-4, x.rewrite(other));
         // p itself needs no room
         c.due(p, x.rewrite(p));
-        c.due("000000000", rules());
+        c.due("000000000", Kit.rules(x));
     }
 
     private static void spent() {
@@ -288,7 +280,7 @@ public final class RewriteTest {
         c.due(-5, x.rewrite(so));
         c.due(-5, x.run(so, 0, 0, 0));
         c.due(-5, x.rewrite(words));
-        c.due("100000000", rules());
+        c.due("100000000", Kit.rules(x));
         c.due("[\"c\", \"d\"]", Kit.all(x, made));
         c.due(-5, x.rewrite(made));
         // and another one of each new stage but the last
@@ -316,7 +308,7 @@ public final class RewriteTest {
     private static void rule() {
         c.about("promise 35");
         x = new StageConveyor();
-        c.due("000000000", rules());
+        c.due("000000000", Kit.rules(x));
         c.due(-2, x.rule(-1));
         c.due(-2, x.rule(9));
         c.due(-2, x.rule(Integer.MAX_VALUE));
@@ -326,12 +318,12 @@ public final class RewriteTest {
         int so = over(p, 15, 0, 1, 15, 0, 1, 15, 0, 1, 16, 0, 3, 16, 0, 2, 21, 0, 0, 21, 0, 0, 19, 0, 0,
                 19, 0, 0, 20, -1, 0, 20, -1, 0, 30, 0, 0, 12, f, 0, 12, f, 0, 29, 0, 4, 29, 0, 5);
         x.rewrite(so);
-        c.due("211110111", rules());
+        c.due("211110111", Kit.rules(x));
         // a refused one changes nothing
         x.rewrite(-1);
-        c.due("211110111", rules());
+        c.due("211110111", Kit.rules(x));
         // undo() leaves it
         c.due(4, x.undo());
-        c.due("211110111", rules());
+        c.due("211110111", Kit.rules(x));
     }
 }

@@ -93,7 +93,7 @@ public final class UndoTest {
         int words = x.row(Kit.word(x, "ab"));
         int g = x.basic(12);
         int p = x.stage(x.stage(x.stage(x.stage(words, 12, g, 0), 12, g, 0), 12, g, 0), 16, 0, 3);
-        String before = Kit.state(x);
+        String before = Kit.besidesRules(x);
         int buildings = x.count(7);
         int made = x.rewrite(p);
         c.due(p + 2, made);
@@ -110,7 +110,7 @@ public final class UndoTest {
         int again = x.stage(p, 30, 0, 0);
         c.due(p + 1, again);
         c.due(3, x.undo());
-        c.due(before, Kit.state(x).replace("0 0 0 0 0 0 0 2 0 ", "0 0 0 0 0 0 0 0 0 "));
+        c.due(before, Kit.besidesRules(x));
         c.due(3, x.undo());
         c.due(0, f);
     }
