@@ -171,19 +171,20 @@ public final class EdgeComparatorTest {
 
     private static void asTheyCame() {
         c.about("SORTED, ENDS 3, 4 and 18: those that are alike as they came");
-        x = new StageConveyor();
-        int same = x.key(x.bind(x.basic(49), 0, false), false);
-        int turned = x.key(x.bind(x.basic(49), 0, false), true);
         int[] counts = {0, 1, 2, 3, 4, 5, 7, 8, 9, 16, 17, 33};
         for (int n : counts) {
+            x = new StageConveyor();
             StringBuilder due = new StringBuilder("[");
             for (int i = 0; i < n; i++) {
                 due.append(i == 0 ? "" : ", ").append(i);
             }
             int p = x.range(0, n);
-            c.due(due + "]", sorted(p, same));
-            c.due(due + "]", sorted(p, turned));
+            c.due(due + "]", sorted(p, x.key(x.bind(x.basic(49), 0, false), false)));
+            c.due(due + "]", sorted(p, x.key(x.bind(x.basic(49), 0, false), true)));
         }
+        x = new StageConveyor();
+        int same = x.key(x.bind(x.basic(49), 0, false), false);
+        int turned = x.key(x.bind(x.basic(49), 0, false), true);
         int p = x.range(5, 9);
         c.due("5", Kit.run(x, p, 3, same, 0));
         c.due("5", Kit.run(x, p, 4, same, 0));

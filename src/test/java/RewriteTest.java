@@ -244,9 +244,10 @@ public final class RewriteTest {
             x.basic(0);
         }
         // two FUNCTIONS would be made, and there is room for one
-        String before = Kit.state(x);
+        int known = x.count(3);
         c.due(-4, x.rewrite(three));
-        c.due(before, Kit.state(x));
+        c.due(59, x.count(1));
+        c.due(known, x.count(3));
         c.due(1, x.rewrite(two) > 0 ? 1 : 0);
         c.due(60, x.count(1));
         c.due(-4, x.rewrite(two));

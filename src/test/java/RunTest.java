@@ -212,10 +212,14 @@ public final class RunTest {
         int f = x.bind(x.basic(49), x.word(1), false);
         c.due("[(\"a\", [2, 3, 4, 5, 6])]", Kit.run(x, p, 14, f, 0));
         // one RUN leaves nothing to the next
+        x = new StageConveyor();
+        even = x.basic(5);
         int rest = x.bind(x.basic(34), x.whole(3), true);
         int thirty = x.range(0, 60);
         for (int i = 0; i < 4; i++) {
-            c.due("[(0, [0, 3, 6, 9,", Kit.run(x, thirty, 14, rest, 0).substring(0, 17));
+            c.due(4, x.run(thirty, 14, rest, 0));
+            c.due(3, x.size(0));
+            c.due(20, x.size(x.part(1, 1)));
         }
         for (int i = 0; i < 4; i++) {
             c.due(3, x.run(thirty, 15, even, 0));

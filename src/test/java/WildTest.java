@@ -1,6 +1,12 @@
+import java.util.ArrayList;
+import java.util.List;
 import java.util.Random;
 
-/** No call ever throws but where the document says so, and a refused call changes nothing. */
+/**
+ * Wild calls: none ever throws but where the document says so, and a refused one changes nothing. The
+ * calls of a run are made on one object, and on another one without those that were refused there: both
+ * must tell the same in the end.
+ */
 public final class WildTest {
     private static final Check c = new Check("WildTest");
     private static final int[] NUMBERS = {Integer.MIN_VALUE, -100, -2, -1, 0, 1, 2, 3, 4, 5, 6, 7, 8, 9, 10, 11,
@@ -10,16 +16,26 @@ public final class WildTest {
         Double.POSITIVE_INFINITY, Double.NEGATIVE_INFINITY, Double.MIN_VALUE};
 
     private static Random random;
-    private static StageConveyor x;
 
     public static void main(String[] args) {
-        for (int seed = 0; seed < 400; seed++) {
+        for (int seed = 0; seed < 3000; seed++) {
+            c.about("seed " + seed);
             random = new Random(seed);
-            x = new StageConveyor();
-            build();
-            for (int i = 0; i < 150; i++) {
-                tryOne(seed);
+            List<Check.Answer> calls = new ArrayList<>();
+            StageConveyor x = built();
+            for (int i = 0; i < 40; i++) {
+                Check.Answer call = wild(random.nextInt(24));
+                int answer = call.of(x);
+                if (answer >= 0 || answer <= -100) {
+                    calls.add(call);
+                }
             }
+            StageConveyor twin = built();
+            for (Check.Answer call : calls) {
+                call.of(twin);
+            }
+            c.due(Kit.state(twin), Kit.state(x));
+            ask(x);
         }
         c.finish();
     }
@@ -36,7 +52,8 @@ public final class WildTest {
         return REALS[random.nextInt(REALS.length)];
     }
 
-    private static void build() {
+    private static StageConveyor built() {
+        StageConveyor x = new StageConveyor();
         int one = x.whole(1);
         int word = x.word(29);
         Kit.list(x, one, word, 0);
@@ -49,66 +66,33 @@ public final class WildTest {
         x.range(0, 7);
         x.row(word);
         x.row(4);
+        return x;
     }
 
-    private static void tryOne(int seed) {
-        c.about("seed " + seed);
-        String before = Kit.state(x);
-        int which = random.nextInt(20);
-        int answer = buildOrRun(which);
-        if (answer < 0 && answer > -100) {
-            c.due(before, Kit.state(x));
-        }
-        ask();
-    }
-
-    private static int buildOrRun(int which) {
+    /** A call with its numbers, so that it can be made again. */
+    private static Check.Answer wild(int which) {
         boolean yes = random.nextBoolean();
-        switch (which) {
-            case 0:
-                return x.whole(big());
-            case 1:
-                return x.real(measure());
-            case 2:
-                return x.word(big());
-            case 3:
-                return x.pair(number(), number());
-            case 4:
-                return x.cons(number(), number());
-            case 5:
-                return x.basic(number());
-            case 6:
-                return x.behind(number(), number());
-            case 7:
-                return x.bind(number(), number(), yes);
-            case 8:
-                return x.exchange(number());
-            case 9:
-                return x.key(number(), yes);
-            case 10:
-                return x.then(number(), number());
-            case 11:
-                return x.range(big(), big());
-            case 12:
-                return x.iterate(number(), number(), number(), yes);
-            case 13:
-                return x.steps(measure(), measure(), number());
-            case 14:
-                return x.row(number());
-            case 15:
-                return x.guard(number(), yes ? 6 : number(), number());
-            case 16:
-                return x.both(number(), number(), yes ? 8 + random.nextInt(3) : number(), number());
-            case 17:
-                return x.stage(number(), 11 + random.nextInt(20), number(), number());
-            case 18:
-                return x.rewrite(number());
-            default:
-                return x.run(number(), random.nextInt(20), number(), number());
-        }
+        int a = number();
+        int b = number();
+        int d = number();
+        int e = number();
+        long one = big();
+        long two = big();
+        double start = measure();
+        double by = measure();
+        int sort = 11 + random.nextInt(20);
+        int end = random.nextInt(20);
+        Check.Answer[] calls = {x -> x.whole(one), x -> x.real(start), x -> x.word(one), x -> x.pair(a, b),
+            x -> x.cons(a, b), x -> x.basic(a), x -> x.behind(a, b), x -> x.bind(a, b, yes), x -> x.exchange(a),
+            x -> x.key(a, yes), x -> x.then(a, b), x -> x.range(one, two), x -> x.iterate(a, b, d, yes),
+            x -> x.steps(start, by, a), x -> x.row(a), x -> x.guard(a, yes ? 6 : b, d),
+            x -> x.both(a, b, yes ? 8 + end % 3 : d, e), x -> x.stage(a, sort, b, d), x -> x.stage(a, b, d, e),
+            x -> x.rewrite(a), x -> x.run(a, end, b, d), x -> x.foretell(a, end, b, d),
+            x -> x.equal(a, b, end, d, e), x -> x.undo()};
+        return calls[which];
     }
 
-    private static void ask() {
+    private static void ask(StageConveyor x) {
         x.kind(number());
         x.size(number());
         x.part(number(), number());
@@ -120,11 +104,6 @@ public final class WildTest {
         x.look(number(), number());
         x.shape(number(), number());
         x.count(number());
-        x.foretell(number(), number(), number(), number());
-        x.equal(number(), number(), number(), number(), number());
-        if (random.nextInt(10) == 0) {
-            x.undo();
-        }
         mayThrow(() -> x.told(number()));
         mayThrow(() -> x.measured(number()));
         mayThrow(() -> x.argument(number(), random.nextBoolean()));
