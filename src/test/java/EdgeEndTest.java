@@ -8,6 +8,7 @@ public final class EdgeEndTest {
     public static void main(String[] args) {
         ofNothing();
         ofEachKind();
+        endedIsNotAsked();
         counting();
         sumOfLongs();
         sumOfReals();
@@ -91,6 +92,28 @@ public final class EdgeEndTest {
             c.due("[(" + v + ", [" + v + "])]", run(p, 14, itself, 0));
             c.about("END 9 of KIND " + kind);
             c.due(v, run(p, 9, x.basic(50), 0));
+        }
+    }
+
+    private static void endedIsNotAsked() {
+        int[] asked = {3, 3, 3, 3, 3, 1, 1, 3, 1, 3, 3, 2, 3, 3, 3, 3, 3, 3, 3, 3};
+        for (int end = 0; end < 20; end++) {
+            if (end == 2 || end == 16) {
+                continue;
+            }
+            c.about("END " + end + ": asks for all, and no further behind its end");
+            x = new StageConveyor();
+            x.whole(1);
+            int even = x.basic(5);
+            int first = x.basic(49);
+            int same = x.basic(1);
+            int source = longs(2, 4, 1, 6, 8);
+            int ended = x.stage(source, 17, even, 0);
+            int f = end == 3 || end == 4 || end == 18 ? -1 : end == 9 ? first : same;
+            c.due(1, x.run(ended, end, f, 1) >= 0 ? 1 : 0);
+            c.due(asked[end], x.given(source));
+            c.due(asked[end], x.calls(even));
+            c.due(asked[end] == 3 ? 2 : asked[end], x.given(ended));
         }
     }
 
@@ -560,6 +583,10 @@ public final class EdgeEndTest {
             int[] whatever = {0, 5, 10, 11, 13, 19};
             for (int end : whatever) {
                 c.due(0, x.run(of[kind], end, 0, 0) == -3 ? 1 : 0);
+            }
+            int[] byOrder = {3, 4, 18};
+            for (int end : byOrder) {
+                c.due(0, x.run(of[kind], end, -1, 1) == -3 ? 1 : 0);
             }
         }
     }

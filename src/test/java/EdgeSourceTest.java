@@ -11,6 +11,7 @@ public final class EdgeSourceTest {
         iterate();
         iterateKinds();
         iterateRefused();
+        iterateFits();
         unfold();
         unfoldRefused();
         steps();
@@ -26,6 +27,7 @@ public final class EdgeSourceTest {
         zippedKinds();
         interleaved();
         sharedKinds();
+        endedIsNotAsked();
         bothRefused();
         restarts();
         spentTogether();
@@ -148,6 +150,41 @@ public final class EdgeSourceTest {
         c.due(-3, x.iterate(x.basic(11), x.word(1), 1, false));
         c.due(2, x.count(3));
         c.due(2, x.iterate(x.basic(25), 0, 1, false));
+    }
+
+    private static void iterateFits() {
+        c.about("KINDS must FIT: what f of 1 and 2 asks for with the VALUE's KIND");
+        int[] codes = {0, 9, 12, 17, 21, 27};
+        for (int asked = 0; asked < 6; asked++) {
+            x = new StageConveyor();
+            int[] values = {x.whole(1), x.real(1.0), x.word(1), x.pair(0, 0), 0};
+            int f = x.basic(codes[asked]);
+            int paired = x.behind(x.basic(26), f);
+            int made = 0;
+            for (int kind = 0; kind < 5; kind++) {
+                boolean right = asked == 5 || asked == kind;
+                c.due(right ? made++ : -3, x.iterate(f, values[kind], 1, false));
+                c.due(right ? made++ : -3, x.iterate(paired, values[kind], 1, true));
+            }
+        }
+        c.about("KINDS must FIT: of 1 what f asks for with f's answer, too");
+        int[] asks = {0, 9, 11, 15, 18, 24};
+        int[] answers = {24, 7, 12, 26, 23, 27};
+        for (int from = 0; from < 6; from++) {
+            for (int to = 0; to < 6; to++) {
+                x = new StageConveyor();
+                int[] values = {x.whole(1), x.real(1.0), x.word(1), x.pair(0, 0), 0};
+                // the one between them answers ANY, so that any two KINDS can be put together
+                int inner = x.behind(x.bind(x.basic(49), 0, true), x.basic(asks[from]));
+                int f = x.behind(x.basic(answers[to]), inner);
+                c.due(from, x.shape(f, 1));
+                c.due(to, x.shape(f, 3));
+                boolean right = from == to || from == 5 || to == 5;
+                c.due(right ? 0 : -3, x.iterate(f, values[from == 5 ? 0 : from], 1, false));
+                boolean pairs = to == 3 || to == 5;
+                c.due(pairs ? right ? 1 : 0 : -3, x.iterate(f, values[from == 5 ? 0 : from], 1, true));
+            }
+        }
     }
 
     private static void unfold() {
@@ -488,6 +525,25 @@ public final class EdgeSourceTest {
                 x.undo();
                 x.undo();
             }
+        }
+    }
+
+    private static void endedIsNotAsked() {
+        c.about("SORTS 6 to 10: one that has ENDED isn't asked any further");
+        x = new StageConveyor();
+        int even = x.basic(5);
+        int source = x.row(Kit.longs(x, 2, 4, 1, 6, 8));
+        int ended = x.stage(source, 17, even, 0);
+        int more = x.range(0, 9);
+        int plus = x.basic(30);
+        int[] of = {x.guard(ended, 6, 0), x.guard(ended, 7, 9), x.both(ended, more, 8, 0), x.both(ended, more, 9, plus),
+            x.both(more, ended, 9, plus), x.both(ended, more, 10, 0), x.both(more, ended, 10, 0)};
+        for (int p : of) {
+            int over = x.stage(p, 23, 0, 4);
+            c.due(0, x.run(over, 0, 0, 0));
+            c.due(3, x.given(source));
+            c.due(3, x.calls(even));
+            c.due(2, x.given(ended));
         }
     }
 

@@ -5,6 +5,7 @@ public final class EdgeStageTest {
 
     public static void main(String[] args) {
         ofNothing();
+        endedIsNotAsked();
         kept();
         mapped();
         flat();
@@ -69,6 +70,26 @@ public final class EdgeStageTest {
             c.due(0, x.count(4));
             c.due(0, x.count(5));
             c.due(0, x.given(q));
+        }
+    }
+
+    private static void endedIsNotAsked() {
+        for (int sort = 11; sort <= 30; sort++) {
+            c.about("SORT " + sort + ": one that has ENDED isn't asked any further");
+            x = new StageConveyor();
+            int one = x.whole(1);
+            int even = x.basic(5);
+            int source = longs(2, 4, 1, 6, 8);
+            int ended = x.stage(source, 17, even, 0);
+            int f = functionFor(sort);
+            int a = sort == 29 ? 100 : sort == 16 || sort == 22 || sort == 23 ? 3 : one;
+            int s = x.stage(ended, sort, f, a);
+            // CHUNK asks once more behind the last one that it gives
+            int over = x.stage(s, 23, 0, 10);
+            c.due(0, x.run(over, 0, 0, 0));
+            c.due(3, x.calls(even));
+            c.due(3, x.given(source));
+            c.due(2, x.given(ended));
         }
     }
 

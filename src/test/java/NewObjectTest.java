@@ -33,8 +33,28 @@ public final class NewObjectTest {
         c.due(4, x.look(0, 0));
         c.due(0, x.run(0, 0, 0, 0));
         c.due(0, x.told(0));
-        // objects have nothing in common
-        c.due(0, new StageConveyor().count(3));
+        apart(c);
         c.finish();
+    }
+
+    private static void apart(Check c) {
+        c.about("promise 1: objects have nothing in common");
+        StageConveyor x = new StageConveyor();
+        StageConveyor y = new StageConveyor();
+        int f = x.basic(0);
+        int p = x.range(0, 5);
+        x.rewrite(x.stage(x.stage(p, 15, 0, 1), 15, 0, 1));
+        c.due(0, x.run(x.guard(p, 6, 3), 12, f, 0));
+        c.due(0, y.count(3));
+        c.due(Kit.state(new StageConveyor()), Kit.state(y));
+        c.due(0, y.range(7, 9));
+        c.due(4, y.run(0, 10, 0, 0));
+        c.due("5", Kit.result(x));
+        c.due("[7, 8]", Kit.result(y));
+        c.due(5, x.calls(f));
+        c.due(10, x.count(6));
+        c.due(4, y.count(6));
+        c.due(3, y.undo());
+        c.due(5, x.count(3));
     }
 }
